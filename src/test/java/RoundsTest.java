@@ -5,7 +5,9 @@ public final class RoundsTest {
     public static void main(String[] args) {
         firstOfTheGreatest();
         lesserPartnerAheadOfNone();
+        laterOnesMakeRoom();
         exchangesFarAlong();
+        longestExchange();
         feudsEnd();
         emptyRounds();
         CHECKS.end();
@@ -50,6 +52,45 @@ public final class RoundsTest {
         CHECKS.due("0 3", x.pair(0, 3, 2), 1);
         CHECKS.due("1 2", x.pair(1, 2, 2), 1);
         CHECKS.due("2 3", x.pair(2, 3, 2), 0);
+    }
+
+    private static void laterOnesMakeRoom() {
+        FenceHandshakes x = allLinked();
+        // With 0-1 both 1-0, 2-2 and 1-2, 2-0 make three; 1 has the lesser partner in the former.
+        addWishes(x, 00, 01, 10, 12, 20, 22);
+        CHECKS.due("partner of 0", x.partner(true, 0), 1);
+        CHECKS.due("partner of 1", x.partner(true, 1), 0);
+        CHECKS.due("partner of 2", x.partner(true, 2), 2);
+        CHECKS.due("reason of 1 2", x.pair(1, 2, 3), 4);
+        FenceHandshakes y = allLinked();
+        addWishes(y, 00, 01, 10, 12, 20, 22, 73, 71, 63);
+        // Only four right people are wished for, so that one of five is left out: 2, as it comes behind 0 and 1.
+        CHECKS.due("in the next round", y.count(6), 4);
+        CHECKS.due("y partner of 0", y.partner(true, 0), 0);
+        CHECKS.due("y round", y.round(), 4);
+        CHECKS.due("y 1 2", y.pair(1, 2, 2), 1);
+        CHECKS.due("y left 2", y.person(true, 2, 4), 0);
+        CHECKS.due("y 6 3", y.pair(6, 3, 2), 1);
+        CHECKS.due("y 7 1", y.pair(7, 1, 2), 1);
+    }
+
+    private static void longestExchange() {
+        FenceHandshakes x = allLinked();
+        // 7 can only have 6, for which each of the others in turn has to go to its other one.
+        x.wish(0, 0);
+        x.wish(0, 7);
+        for (int l = 1; l < 7; l++) {
+            x.wish(l, l);
+            x.wish(l, l - 1);
+        }
+        CHECKS.due("partner of 6 before", x.partner(true, 6), 6);
+        x.wish(7, 6);
+        CHECKS.due("nobody is left out", x.hindered(), 0);
+        CHECKS.due("partner of 0", x.partner(true, 0), 7);
+        CHECKS.due("all eight", x.round(), 8);
+        for (int l = 1; l < 8; l++) {
+            CHECKS.due("handshake of " + l, x.pair(l, l - 1, 2), 1);
+        }
     }
 
     private static void exchangesFarAlong() {
