@@ -3,11 +3,15 @@ public final class NewObjectTest {
     private static final Checks CHECKS = new Checks();
 
     public static void main(String[] args) {
-        constants();
-        people();
-        pairsAndGates();
-        numbersAboutAll();
-        objectsAreApart();
+        CHECKS.sentence("Errors", "The constants:", NewObjectTest::constants);
+        CHECKS.sentence("Promise 1", "Creates two clans", NewObjectTest::people);
+        CHECKS.sentence("Promise 1", "without wishes and feuds", NewObjectTest::pairsAndGates);
+        CHECKS.sentence("Promise 1", "before the round 0", NewObjectTest::beforeTheFirstRound);
+        CHECKS.sentence("Promise 1", "with an empty text", NewObjectTest::emptyText);
+        CHECKS.sentence("Promise 1", "an empty history", NewObjectTest::emptyHistory);
+        CHECKS.sentence("Promise 1", "without a snapshot", NewObjectTest::noSnapshot);
+        CHECKS.sentence("Promise 1", "Creates two clans", NewObjectTest::numbersAboutAll);
+        CHECKS.sentence("Promise 1", "Creates two clans", NewObjectTest::objectsAreApart);
         CHECKS.end();
     }
 
@@ -53,20 +57,41 @@ public final class NewObjectTest {
         }
     }
 
+    private static void beforeTheFirstRound() {
+        FenceHandshakes x = new FenceHandshakes();
+        CHECKS.due("rounds", x.count(4), 0);
+        CHECKS.due("handshakes", x.count(5), 0);
+        CHECKS.dueDouble("mean", x.mean(), 0.0);
+    }
+
+    private static void emptyText() {
+        FenceHandshakes x = new FenceHandshakes();
+        CHECKS.due("length", x.count(9), 0);
+        CHECKS.due("fault", x.fault(), 0);
+        CHECKS.due("read", x.read(), -100);
+        CHECKS.due("clearText", x.clearText(), 0);
+    }
+
+    private static void emptyHistory() {
+        FenceHandshakes x = new FenceHandshakes();
+        CHECKS.due("states", x.count(8), 0);
+        CHECKS.due("undo", x.undo(), -5);
+    }
+
+    private static void noSnapshot() {
+        FenceHandshakes x = new FenceHandshakes();
+        CHECKS.due("restore", x.restore(), -4);
+        CHECKS.due("and again", x.restore(), -4);
+    }
+
     private static void numbersAboutAll() {
         FenceHandshakes x = new FenceHandshakes();
         for (int what = 0; what < 10; what++) {
             CHECKS.due("count(" + what + ")", x.count(what), what == 3 ? 4 : 0);
         }
         CHECKS.due("hindered", x.hindered(), 0);
-        CHECKS.due("fault", x.fault(), 0);
-        CHECKS.due("read", x.read(), -100);
-        CHECKS.due("undo", x.undo(), -5);
-        CHECKS.due("restore", x.restore(), -4);
         CHECKS.due("doneIn", x.doneIn(), 0);
         CHECKS.due("bestLink", x.bestLink(), -5);
-        CHECKS.dueDouble("mean", x.mean(), 0.0);
-        CHECKS.due("clearText", x.clearText(), 0);
     }
 
     private static void objectsAreApart() {

@@ -16,8 +16,8 @@ public final class QueriesTest {
     }
 
     private static FenceHandshakes example() {
-        FenceHandshakes x = RoundsTest.allLinked();
-        RoundsTest.addWishes(x, 00, 01, 10, 12, 22, 23, 32, 77);
+        FenceHandshakes x = Setups.allLinked();
+        Setups.addWishes(x, 00, 01, 10, 12, 22, 23, 32, 77);
         x.quarrel(0, 0, 2);
         x.quarrel(1, 5, 3);
         x.link(3, 3, false);
@@ -88,8 +88,8 @@ public final class QueriesTest {
             CHECKS.due("partner of left " + p, x.partner(true, p), ofLeft[p]);
             CHECKS.due("partner of right " + p, x.partner(false, p), ofRight[p]);
         }
-        FenceHandshakes y = RoundsTest.allLinked();
-        RoundsTest.addWishes(y, 05, 06, 15, 45);
+        FenceHandshakes y = Setups.allLinked();
+        Setups.addWishes(y, 05, 06, 15, 45);
         CHECKS.due("0 yields to 1", y.partner(true, 0), 6);
         CHECKS.due("1 is ahead of 4", y.partner(true, 1), 5);
         CHECKS.due("4 has none", y.partner(true, 4), -5);
@@ -99,8 +99,8 @@ public final class QueriesTest {
     }
 
     private static void hinderedPeople() {
-        FenceHandshakes x = RoundsTest.allLinked();
-        RoundsTest.addWishes(x, 03, 13);
+        FenceHandshakes x = Setups.allLinked();
+        Setups.addWishes(x, 03, 13);
         CHECKS.due("two for one", x.hindered(), 3);
         x.wish(1, 4);
         CHECKS.due("enough", x.hindered(), 0);
@@ -133,8 +133,8 @@ public final class QueriesTest {
     }
 
     private static void planChangesAlongAPath() {
-        FenceHandshakes x = RoundsTest.allLinked();
-        RoundsTest.addWishes(x, 00, 01, 10, 12, 21);
+        FenceHandshakes x = Setups.allLinked();
+        Setups.addWishes(x, 00, 01, 10, 12, 21);
         // 2-1 gets 0 at once: 2 has no number, and 1 has only 1.
         CHECKS.due("2 1", x.planned(2, 1), 0);
         CHECKS.due("0 1", x.planned(0, 1), 1);
@@ -143,9 +143,9 @@ public final class QueriesTest {
         CHECKS.due("3 0", x.planned(3, 0), 0);
         CHECKS.due("0 0", x.planned(0, 0), 2);
         CHECKS.due("1 0", x.planned(1, 0), 1);
-        FenceHandshakes y = RoundsTest.allLinked();
+        FenceHandshakes y = Setups.allLinked();
         // 2-0 wants 0; the path is 0-0 with 0, 0-1 with 1, 1-1 with 0, and all three exchange 0 and 1.
-        RoundsTest.addWishes(y, 00, 01, 11, 20);
+        Setups.addWishes(y, 00, 01, 11, 20);
         CHECKS.due("y 2 0", y.planned(2, 0), 0);
         CHECKS.due("y 0 0", y.planned(0, 0), 1);
         CHECKS.due("y 0 1", y.planned(0, 1), 0);
@@ -167,8 +167,8 @@ public final class QueriesTest {
         }
         x.undo();
         CHECKS.due("states after undo", x.count(8), 4);
-        FenceHandshakes y = RoundsTest.allLinked();
-        RoundsTest.addWishes(y, 05, 15, 25, 35, 45, 42);
+        FenceHandshakes y = Setups.allLinked();
+        Setups.addWishes(y, 05, 15, 25, 35, 45, 42);
         CHECKS.due("the greatest number is a right person's", y.count(7), 5);
         CHECKS.due("handshakes in the next round", y.count(6), 2);
     }

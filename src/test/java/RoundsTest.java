@@ -13,25 +13,9 @@ public final class RoundsTest {
         CHECKS.end();
     }
 
-    static FenceHandshakes allLinked() {
-        FenceHandshakes x = new FenceHandshakes();
-        for (int l = 0; l < 4; l++) {
-            for (int r = 0; r < 4; r++) {
-                x.link(l, r, true);
-            }
-        }
-        return x;
-    }
-
-    static void addWishes(FenceHandshakes x, int... pairs) {
-        for (int p : pairs) {
-            x.wish(p / 10, p % 10);
-        }
-    }
-
     private static void firstOfTheGreatest() {
-        FenceHandshakes x = allLinked();
-        addWishes(x, 00, 01, 10);
+        FenceHandshakes x = Setups.allLinked();
+        Setups.addWishes(x, 00, 01, 10);
         CHECKS.due("two shake hands", x.round(), 2);
         CHECKS.due("0 with 1", x.pair(0, 1, 2), 1);
         CHECKS.due("1 with 0", x.pair(1, 0, 2), 1);
@@ -45,8 +29,8 @@ public final class RoundsTest {
     }
 
     private static void lesserPartnerAheadOfNone() {
-        FenceHandshakes x = allLinked();
-        addWishes(x, 03, 13, 23, 12);
+        FenceHandshakes x = Setups.allLinked();
+        Setups.addWishes(x, 03, 13, 23, 12);
         // {03, 12} is the first of the two greatest ones, as 2 has no partner in it.
         CHECKS.due("two of three", x.round(), 2);
         CHECKS.due("0 3", x.pair(0, 3, 2), 1);
@@ -55,15 +39,15 @@ public final class RoundsTest {
     }
 
     private static void laterOnesMakeRoom() {
-        FenceHandshakes x = allLinked();
+        FenceHandshakes x = Setups.allLinked();
         // With 0-1 both 1-0, 2-2 and 1-2, 2-0 make three; 1 has the lesser partner in the former.
-        addWishes(x, 00, 01, 10, 12, 20, 22);
+        Setups.addWishes(x, 00, 01, 10, 12, 20, 22);
         CHECKS.due("partner of 0", x.partner(true, 0), 1);
         CHECKS.due("partner of 1", x.partner(true, 1), 0);
         CHECKS.due("partner of 2", x.partner(true, 2), 2);
         CHECKS.due("reason of 1 2", x.pair(1, 2, 3), 4);
-        FenceHandshakes y = allLinked();
-        addWishes(y, 00, 01, 10, 12, 20, 22, 73, 71, 63);
+        FenceHandshakes y = Setups.allLinked();
+        Setups.addWishes(y, 00, 01, 10, 12, 20, 22, 73, 71, 63);
         // Only four right people are wished for, so that one of five is left out: 2, as it comes behind 0 and 1.
         CHECKS.due("in the next round", y.count(6), 4);
         CHECKS.due("y partner of 0", y.partner(true, 0), 0);
@@ -75,7 +59,7 @@ public final class RoundsTest {
     }
 
     private static void longestExchange() {
-        FenceHandshakes x = allLinked();
+        FenceHandshakes x = Setups.allLinked();
         // 7 can only have 6, for which each of the others in turn has to go to its other one.
         x.wish(0, 0);
         x.wish(0, 7);
@@ -94,7 +78,7 @@ public final class RoundsTest {
     }
 
     private static void exchangesFarAlong() {
-        FenceHandshakes x = allLinked();
+        FenceHandshakes x = Setups.allLinked();
         // A chain in which 7 has only the partner 0, so that each one has to yield to the next.
         for (int l = 0; l < 7; l++) {
             x.wish(l, l);
@@ -113,7 +97,7 @@ public final class RoundsTest {
         FenceHandshakes x = new FenceHandshakes();
         x.quarrel(0, 0, 2);
         x.quarrel(1, 1, 50);
-        addWishes(x, 00, 11);
+        Setups.addWishes(x, 00, 11);
         CHECKS.due("round 0", x.round(), 0);
         CHECKS.due("feud of 0 and 0", x.pair(0, 0, 1), 1);
         CHECKS.due("round 1, in which the feud lasts yet", x.round(), 0);

@@ -12,18 +12,6 @@ public final class TextTest {
         CHECKS.end();
     }
 
-    private static FenceHandshakes withText(String text) {
-        FenceHandshakes x = new FenceHandshakes();
-        add(x, text);
-        return x;
-    }
-
-    private static void add(FenceHandshakes x, String text) {
-        for (int i = 0; i < text.length(); i++) {
-            x.append(text.charAt(i));
-        }
-    }
-
     private static void appends() {
         FenceHandshakes x = new FenceHandshakes();
         CHECKS.due("append 31", x.append(31), -2);
@@ -43,7 +31,7 @@ public final class TextTest {
     }
 
     private static void clears() {
-        FenceHandshakes x = withText("01-2");
+        FenceHandshakes x = Setups.withText("01-2");
         CHECKS.due("clear", x.clearText(), 4);
         CHECKS.due("length", x.count(9), 0);
         CHECKS.due("clear again", x.clearText(), 0);
@@ -54,7 +42,7 @@ public final class TextTest {
     }
 
     private static void faultOf(String text, int want) {
-        FenceHandshakes x = withText(text);
+        FenceHandshakes x = Setups.withText(text);
         CHECKS.due("fault of '" + text + "'", x.fault(), want);
         CHECKS.due("read of '" + text + "'", x.read() < 0 ? x.read() : -5, want == -5 ? -5 : -100 - want);
     }
@@ -79,7 +67,7 @@ public final class TextTest {
     }
 
     private static void reads() {
-        FenceHandshakes x = withText("02-13,4-4567,0-1");
+        FenceHandshakes x = Setups.withText("02-13,4-4567,0-1");
         x.wish(2, 3);
         CHECKS.due("read", x.read(), 7);
         CHECKS.due("open", x.count(0), 8);
@@ -99,13 +87,13 @@ public final class TextTest {
     }
 
     private static void readsWithFault() {
-        FenceHandshakes x = withText("0-0,1-11");
+        FenceHandshakes x = Setups.withText("0-0,1-11");
         CHECKS.due("read", x.read(), -107);
         CHECKS.due("nothing is added", x.count(0), 0);
         CHECKS.due("no action", x.count(8), 0);
         x.clearText();
         CHECKS.due("read the empty text", x.read(), -100);
-        add(x, "5-6");
+        Setups.type(x, "5-6");
         CHECKS.due("read the next text", x.read(), 1);
         CHECKS.due("only its pair", x.pair(5, 6, 0), 1);
         CHECKS.due("open", x.count(0), 1);
@@ -116,15 +104,15 @@ public final class TextTest {
         for (int i = 0; i < 18; i++) {
             list.append(",").append(i % 8).append("-").append(7 - i % 8);
         }
-        FenceHandshakes x = withText(list.toString());
+        FenceHandshakes x = Setups.withText(list.toString());
         CHECKS.due("length", x.count(9), 80);
         CHECKS.due("fault of the full list", x.fault(), -5);
         CHECKS.due("read it", x.read(), 18);
-        FenceHandshakes y = withText(list.substring(0, 78) + "1-");
+        FenceHandshakes y = Setups.withText(list.substring(0, 78) + "1-");
         CHECKS.due("fault at the end", y.fault(), 78);
-        FenceHandshakes z = withText(list.substring(0, 79) + "-");
+        FenceHandshakes z = Setups.withText(list.substring(0, 79) + "-");
         CHECKS.due("fault at the last character", z.fault(), 79);
-        FenceHandshakes w = withText(list.substring(0, 78) + "23");
+        FenceHandshakes w = Setups.withText(list.substring(0, 78) + "23");
         CHECKS.due("not complete at the end of the room", w.fault(), 80);
         CHECKS.due("read what is not complete", w.read(), -180);
     }

@@ -13,7 +13,7 @@ public final class WhatWouldBeTest {
     }
 
     private static void roundsUntilDone() {
-        FenceHandshakes x = RoundsTest.allLinked();
+        FenceHandshakes x = Setups.allLinked();
         CHECKS.due("nothing to do", x.doneIn(), 0);
         x.wish(0, 0);
         CHECKS.due("one wish", x.doneIn(), 1);
@@ -26,7 +26,7 @@ public final class WhatWouldBeTest {
             x.wish(0, r);
         }
         CHECKS.due("eight of one person after the feuds", x.doneIn(), 58);
-        FenceHandshakes y = RoundsTest.allLinked();
+        FenceHandshakes y = Setups.allLinked();
         for (int l = 0; l < 8; l++) {
             for (int r = 0; r < 8; r++) {
                 y.wish(l, r);
@@ -51,8 +51,8 @@ public final class WhatWouldBeTest {
     }
 
     private static void nothingIsChanged() {
-        FenceHandshakes x = RoundsTest.allLinked();
-        RoundsTest.addWishes(x, 00, 01, 10);
+        FenceHandshakes x = Setups.allLinked();
+        Setups.addWishes(x, 00, 01, 10);
         x.quarrel(0, 0, 9);
         x.link(3, 3, false);
         x.doneIn();
@@ -91,11 +91,11 @@ public final class WhatWouldBeTest {
     }
 
     private static void noBestLink() {
-        FenceHandshakes x = RoundsTest.allLinked();
+        FenceHandshakes x = Setups.allLinked();
         x.wish(0, 0);
         CHECKS.due("all are linked", x.bestLink(), -5);
         FenceHandshakes y = new FenceHandshakes();
-        RoundsTest.addWishes(y, 00, 02);
+        Setups.addWishes(y, 00, 02);
         CHECKS.due("0 shakes hands anyhow", y.bestLink(), -5);
         y.wish(5, 1);
         CHECKS.due("5 does not", y.bestLink(), 8);
@@ -104,8 +104,8 @@ public final class WhatWouldBeTest {
     }
 
     private static void means() {
-        FenceHandshakes x = RoundsTest.allLinked();
-        RoundsTest.addWishes(x, 00, 11, 22, 30);
+        FenceHandshakes x = Setups.allLinked();
+        Setups.addWishes(x, 00, 11, 22, 30);
         CHECKS.dueDouble("before the first round", x.mean(), 0.0);
         x.round();
         CHECKS.dueDouble("after one", x.mean(), 3.0);
