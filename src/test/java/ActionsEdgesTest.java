@@ -38,7 +38,9 @@ public final class ActionsEdgesTest {
         FenceHandshakes x = new FenceHandshakes();
         x.wish(1, 0);
         x.wish(6, 7);
-        int[][] wrong = {{0, 8}, {1, -8}, {7, -1}, {2, -8}, {6, 8}, {-1, 8}, {-1, 16}, {8, -1}, {8, -64}, {8, 8}, {-1, -1}};
+        // Some of these would be other pairs if nobody looked at each of the two numbers.
+        int[][] wrong = {{0, 8}, {1, -8}, {7, -1}, {2, -8}, {6, 8}, {-1, 8}, {-1, 16}, {8, -1}, {8, -64}, {8, 8},
+            {-1, -1}};
         for (int[] w : wrong) {
             CHECKS.due("wish " + w[0] + " " + w[1], x.wish(w[0], w[1]), -1);
         }
@@ -112,11 +114,23 @@ public final class ActionsEdgesTest {
             CHECKS.range("quarrel of right", 0, 7, -1, v -> Setups.quarrelling(9).quarrel(3, v, 1), v -> 9));
         CHECKS.sentence(place, "rounds: 1 to 50", () -> CHECKS.range("quarrel for", 1, 50, -2,
             v -> new FenceHandshakes().quarrel(0, 0, v), v -> 0));
+        CHECKS.sentence(place, "NO_SUCH if there is no such person", ActionsEdgesTest::feudsOfNobody);
         CHECKS.sentence(place, "BAD_VALUE if rounds is out of range", ActionsEdgesTest::feudsOutOfRange);
         CHECKS.sentence(place, "Begins a feud, in place of one that there is.", ActionsEdgesTest::feudInPlaceOfAnother);
         CHECKS.sentence(place, "Returns the rounds that the previous feud would have lasted",
             ActionsEdgesTest::roundsOfThePreviousFeud);
         CHECKS.sentence(place, "0 if there was none", ActionsEdgesTest::noPreviousFeud);
+    }
+
+    private static void feudsOfNobody() {
+        FenceHandshakes x = new FenceHandshakes();
+        x.quarrel(1, 0, 9);
+        int[][] wrong = {{0, 8}, {7, -1}, {1, -8}, {2, -8}, {-1, 8}, {-1, 16}, {8, -1}, {8, 8}, {-1, -1}};
+        for (int[] w : wrong) {
+            CHECKS.due("quarrel " + w[0] + " " + w[1], x.quarrel(w[0], w[1], 5), -1);
+        }
+        CHECKS.due("feuds", x.count(2), 1);
+        CHECKS.due("the feud that there is", x.pair(1, 0, 1), 9);
     }
 
     private static void feudsOutOfRange() {
@@ -133,12 +147,14 @@ public final class ActionsEdgesTest {
 
     private static void feudInPlaceOfAnother() {
         FenceHandshakes x = new FenceHandshakes();
-        x.quarrel(7, 0, 50);
-        x.quarrel(7, 0, 1);
+        x.quarrel(0, 0, 20);
+        x.quarrel(7, 7, 30);
+        CHECKS.due("where there is none", x.quarrel(7, 0, 50), 0);
+        CHECKS.due("in place of the longest", x.quarrel(7, 0, 1), 50);
         CHECKS.due("the shorter one, not the sum or the greater", x.pair(7, 0, 1), 1);
-        x.quarrel(7, 0, 50);
+        CHECKS.due("in place of the shortest", x.quarrel(7, 0, 50), 1);
         CHECKS.due("the longer one", x.pair(7, 0, 1), 50);
-        CHECKS.due("one feud", x.count(2), 1);
+        CHECKS.due("three feuds", x.count(2), 3);
         CHECKS.due("turned about there is none", x.pair(0, 7, 1), 0);
     }
 

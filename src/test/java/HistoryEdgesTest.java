@@ -20,10 +20,12 @@ public final class HistoryEdgesTest {
         CHECKS.sentence(HISTORY, "The actions are wish, withdraw, quarrel, reconcile, link, move, round, read and "
             + "restore.", HistoryEdgesTest::nineActions);
         CHECKS.sentence(HISTORY, "The actions are", HistoryEdgesTest::allOthersAreNone);
-        CHECKS.sentence(HISTORY, "records the state before it in the history", HistoryEdgesTest::stateBeforeEachAction);
+        CHECKS.sentence(HISTORY, "records the state before it in the history",
+            HistoryEdgesTest::stateBeforeEachAction);
         CHECKS.sentence(HISTORY, "Each action that returns no error code records the state before it in the history, "
             + "even if the action changes nothing.", HistoryEdgesTest::actionsThatChangeNothing);
-        CHECKS.sentence(HISTORY, "Each action that returns no error code", HistoryEdgesTest::refusedActionsRecordNothing);
+        CHECKS.sentence(HISTORY, "Each action that returns no error code",
+            HistoryEdgesTest::refusedActionsRecordNothing);
         CHECKS.sentence(HISTORY, "The state consists of the gates of people, the links, the feuds, the open wishes, "
             + "the number of rounds, and the tallies.", HistoryEdgesTest::allOfTheState);
         CHECKS.sentence(HISTORY, "The text, the snapshot and the history itself are not part of the state.",
@@ -369,7 +371,18 @@ public final class HistoryEdgesTest {
         CHECKS.due("and again", x.undo(), -5);
         CHECKS.due("an action", x.wish(0, 0), 1);
         CHECKS.due("that can be undone", x.undo(), 0);
-        Pictures.dueUnchanged(CHECKS, "undo of an empty history", FenceHandshakes::new, FenceHandshakes::undo);
+        Pictures.dueUnchanged(CHECKS, "undo of a new object", FenceHandshakes::new, FenceHandshakes::undo);
+        Pictures.dueUnchanged(CHECKS, "undo of an empty history", HistoryEdgesTest::undoneAsFarAsCanBe,
+            FenceHandshakes::undo);
+    }
+
+    /** The history is empty, but the state is not that of a new object, as its older ones were dropped. */
+    private static FenceHandshakes undoneAsFarAsCanBe() {
+        FenceHandshakes x = Setups.eventful();
+        for (int n = 0; n < 5; n++) {
+            x.undo();
+        }
+        return x;
     }
 
     private static void save(String place) {

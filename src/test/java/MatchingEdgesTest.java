@@ -25,6 +25,9 @@ public final class MatchingEdgesTest {
             + "person 0 on", MatchingEdgesTest::lastDifferenceDecides);
         CHECKS.sentence(ROUND, "In a round, of all greatest matchings the first one is taken",
             MatchingEdgesTest::firstOnesOfAll);
+        CHECKS.sentence(ROUND, "of all greatest matchings the first one is taken", MatchingEdgesTest::exchangesForIt);
+        CHECKS.sentence(ROUND, "of all greatest matchings the first one is taken", MatchingEdgesTest::allSmallSets);
+        CHECKS.sentence(ROUND, "of all greatest matchings the first one is taken", MatchingEdgesTest::scatteredSets);
         CHECKS.sentence(ROUND, "the people of each of its wishes shake hands, and these wishes are no longer open",
             MatchingEdgesTest::onlyItsWishes);
         CHECKS.sentence(ROUND, "Then each feud becomes one round shorter", MatchingEdgesTest::eachFeudIsShorter);
@@ -219,6 +222,53 @@ public final class MatchingEdgesTest {
         CHECKS.due("open at last", x.count(0), 0);
         CHECKS.due("handshakes", x.count(5), 64);
         CHECKS.due("a ninth round", x.round(), 0);
+    }
+
+    private static void duePartners(String what, int[] pairs, int... partners) {
+        FenceHandshakes x = Setups.wishing(pairs);
+        int size = 0;
+        for (int l = 0; l < 8; l++) {
+            boolean hasPartner = l < partners.length && partners[l] != Matchings.NOBODY;
+            CHECKS.due(what + ", partner of " + l, x.partner(true, l), hasPartner ? partners[l] : -5);
+            if (hasPartner) {
+                CHECKS.due(what + ", partner of right " + partners[l], x.partner(false, partners[l]), l);
+                size++;
+            }
+        }
+        CHECKS.due(what + ", handshakes", x.round(), size);
+    }
+
+    private static void exchangesForIt() {
+        int none = Matchings.NOBODY;
+        // 0 can have 1, if both others go on: nobody but 2 can have 0, and then nobody but 1 can have 2.
+        duePartners("all three in turn", new int[] {00, 01, 02, 11, 12, 20}, 1, 2, 0);
+        // 0 cannot have 0, as then 1 and 2 had 1 alone.
+        duePartners("not the least one", new int[] {00, 02, 10, 11, 20, 21}, 2, 0, 1);
+        // 5 can only have 0, so that the least one for 1 is 1, and 4 goes to 2 for it.
+        duePartners("some without partner", new int[] {10, 11, 13, 33, 35, 41, 42, 50}, none, 1, none, 3, 2, 0);
+        // 1 has its least one, as 4 can go to 3, which lets 2 have only 4.
+        duePartners("a later one makes room", new int[] {10, 11, 23, 24, 40, 43}, none, 0, 4, none, 3);
+        // Five right people are wished for, and all have partners only if 1 and 2 go as far as they can.
+        duePartners("all right people", new int[] {00, 05, 11, 14, 22, 25, 30, 31, 41, 52}, 0, 4, 5, 1, none, 2);
+        // 2 takes 4, so that 4 can have 1; 3 wishes for nothing.
+        duePartners("one goes to the far end", new int[] {00, 02, 12, 13, 20, 21, 24, 40, 41}, 0, 2, 4, none, 1);
+    }
+
+    private static void allSmallSets() {
+        int[][] people = {{0, 1, 2}, {5, 6, 7}, {0, 3, 7}};
+        for (int[] three : people) {
+            for (int set = 0; set < 512; set++) {
+                int[] pairs = Matchings.setOf(set, three, three);
+                duePartners("set " + set, pairs, new Matchings(pairs).firstOfTheGreatest());
+            }
+        }
+    }
+
+    private static void scatteredSets() {
+        for (int set = 0; set < 1000; set++) {
+            int[] pairs = Matchings.scatteredSet(set);
+            duePartners("scattered set " + set, pairs, new Matchings(pairs).firstOfTheGreatest());
+        }
     }
 
     private static void onlyItsWishes() {

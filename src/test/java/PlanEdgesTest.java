@@ -9,6 +9,7 @@ public final class PlanEdgesTest {
         CHECKS.sentence(PLANS, "such that no person has the same number in two wishes", PlanEdgesTest::noNumberTwice);
         CHECKS.sentence(PLANS, "The number of wishes of a person is counted for the possible open wishes",
             PlanEdgesTest::impossibleOnesDoNotCount);
+        CHECKS.sentence(PLANS, "let d be the greatest of these numbers", PlanEdgesTest::asManyNumbersAsWishes);
         CHECKS.sentence(PLANS, "with the numbers 0 to d - 1", PlanEdgesTest::numbersOfAStar);
         CHECKS.sentence(PLANS, "with the numbers 0 to d - 1", PlanEdgesTest::numbersOfTheFullPlan);
         CHECKS.sentence(PLANS, "let a be the least number that no wish of l has so far",
@@ -25,10 +26,13 @@ public final class PlanEdgesTest {
         CHECKS.sentence(PLANS, "and so on, as long as there is such a wish", PlanEdgesTest::longestPath);
         CHECKS.sentence(PLANS, "all wishes on the path that have the number a get b, and those that have b get a",
             PlanEdgesTest::pathWithALesserSecondNumber);
+        CHECKS.sentence(PLANS, "Then the wish of l and r gets a.", PlanEdgesTest::aBehindThePath);
         CHECKS.sentence(PLANS, "The wishes are gone through in their order.", PlanEdgesTest::inTheirOrder);
         CHECKS.sentence(PLANS, "The plan of the present wishes", PlanEdgesTest::madeAnew);
+        CHECKS.sentence(PLANS, "The plan of the present wishes is made as follows", PlanEdgesTest::scatteredSets);
         CHECKS.sentence(PROMISE, "left: 0 to 7", PlanEdgesTest::leftPeople);
         CHECKS.sentence(PROMISE, "right: 0 to 7", PlanEdgesTest::rightPeople);
+        CHECKS.sentence(PROMISE, "NO_SUCH if there is no such person", PlanEdgesTest::plansOfNobody);
         CHECKS.sentence(PROMISE, "NONE if there is no open wish of this pair", PlanEdgesTest::noOpenWish);
         CHECKS.sentence(PROMISE, "or it is not possible", PlanEdgesTest::notPossible);
         CHECKS.end();
@@ -86,6 +90,38 @@ public final class PlanEdgesTest {
         CHECKS.due("0 1 has the only number", x.planned(0, 1), 0);
         for (int right = 2; right < 8; right++) {
             CHECKS.due("0 " + right, x.planned(0, right), -5);
+        }
+    }
+
+    private static void asManyNumbersAsWishes() {
+        for (int set = 0; set < 300; set++) {
+            FenceHandshakes x = Setups.wishing(Matchings.scatteredSet(set));
+            int greatest = -1;
+            for (int pair = 0; pair < 64; pair++) {
+                greatest = Math.max(greatest, x.planned(pair / 8, pair % 8));
+            }
+            CHECKS.due("the greatest number of the scattered set " + set, greatest, x.count(7) - 1);
+            for (int p = 0; p < 8; p++) {
+                CHECKS.due("numbers of left " + p, numbersOf(x, true, p), x.person(true, p, 2));
+                CHECKS.due("numbers of right " + p, numbersOf(x, false, p), x.person(false, p, 2));
+            }
+        }
+    }
+
+    private static void scatteredSets() {
+        for (int set = 0; set < 1000; set++) {
+            int[] pairs = Matchings.scatteredSet(set);
+            FenceHandshakes x = Setups.wishing(pairs);
+            Model model = new Model();
+            for (int link = 0; link < 16; link++) {
+                model.link(link / 4, link % 4, true);
+            }
+            for (int p : pairs) {
+                model.wish(p / 10, p % 10);
+            }
+            for (int p : pairs) {
+                CHECKS.due("set " + set + ", " + p, x.planned(p / 10, p % 10), model.planned(p / 10, p % 10));
+            }
         }
     }
 
@@ -173,6 +209,13 @@ public final class PlanEdgesTest {
         duePlan(Setups.wishing(01, 02, 10, 12), 11, 20, 100, 121);
     }
 
+    private static void aBehindThePath() {
+        duePlan(Setups.wishing(00, 10), 1, 100);
+        duePlan(Setups.wishing(01, 02, 10, 12), 11, 20, 100, 121);
+        // 1-5 wants 2, which 0-5 has; b is 0, which 0-3 has, and the path ends at the right person 3.
+        duePlan(Setups.wishing(03, 04, 05, 10, 11, 15), 32, 41, 50, 100, 111, 152);
+    }
+
     private static void inTheirOrder() {
         // 2-0 comes last, so that it has 0, and 1-0 got 2 as 1-1 had 1 by then.
         int[][] added = {{00, 10, 11, 20}, {20, 11, 10, 00}, {11, 20, 00, 10}, {00, 10, 20, 11}};
@@ -204,6 +247,14 @@ public final class PlanEdgesTest {
 
     private static void rightPeople() {
         CHECKS.range("right", 0, 7, -1, v -> Setups.wishing(30, 31, 32, 33, 34, 35, 36, 37).planned(3, v), v -> v);
+    }
+
+    private static void plansOfNobody() {
+        FenceHandshakes x = Setups.wishingAll();
+        int[][] wrong = {{0, 8}, {7, -1}, {1, -8}, {-1, 8}, {-1, 16}, {8, -1}, {8, -64}, {8, 8}, {-1, -1}};
+        for (int[] w : wrong) {
+            CHECKS.due("planned " + w[0] + " " + w[1], x.planned(w[0], w[1]), -1);
+        }
     }
 
     private static void noOpenWish() {

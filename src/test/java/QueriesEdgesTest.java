@@ -295,6 +295,13 @@ public final class QueriesEdgesTest {
             CHECKS.range("left", 0, 3, -1, v -> new FenceHandshakes().isLinked(v, 0), v -> v == 0 ? 1 : 0));
         CHECKS.sentence(place, "right: 0 to 3, a right gate", () ->
             CHECKS.range("right", 0, 3, -1, v -> new FenceHandshakes().isLinked(3, v), v -> v == 3 ? 1 : 0));
+        CHECKS.sentence(place, "NO_SUCH if there is no such gate", () -> {
+            FenceHandshakes x = Setups.allLinked();
+            int[][] wrong = {{0, 4}, {3, -1}, {1, -4}, {-1, 4}, {-1, 0}, {4, 0}, {4, -1}, {4, 4}, {-1, -1}};
+            for (int[] w : wrong) {
+                CHECKS.due("isLinked " + w[0] + " " + w[1], x.isLinked(w[0], w[1]), -1);
+            }
+        });
         CHECKS.sentence(place, "Returns 1 if they are, otherwise 0", () -> {
             FenceHandshakes x = new FenceHandshakes();
             x.link(3, 0, true);
@@ -363,6 +370,7 @@ public final class QueriesEdgesTest {
             QueriesEdgesTest::hinderedFromNoneToAll);
         CHECKS.sentence(place, "those left people with possible open wishes", QueriesEdgesTest::onlyThoseWithWishes);
         CHECKS.sentence(place, "who have no partner in some greatest matching", QueriesEdgesTest::inSomeMatching);
+        CHECKS.sentence(place, "who have no partner in some greatest matching", QueriesEdgesTest::inSomeOfAll);
         CHECKS.sentence(place, "Returns the left people who hinder one another", () -> {
             CHECKS.due("a left person with two right ones", Setups.wishing(70, 77).hindered(), 0);
             CHECKS.due("two left ones with a right one", Setups.wishing(00, 70).hindered(), 129);
@@ -380,10 +388,10 @@ public final class QueriesEdgesTest {
         FenceHandshakes one = Setups.wishing(67, 77);
         CHECKS.due("the last two", one.hindered(), 192);
         // Eight people for seven: whoever is left out, each of the others can go one further.
-        CHECKS.due("all along a chain", Setups.wishing(00, 10, 11, 21, 22, 32, 33, 43, 44, 54, 55, 65, 66, 76).hindered(),
-            255);
-        CHECKS.due("all along a chain back", Setups.wishing(77, 67, 66, 56, 55, 45, 44, 34, 33, 23, 22, 12, 11, 01).hindered(),
-            255);
+        FenceHandshakes chain = Setups.wishing(00, 10, 11, 21, 22, 32, 33, 43, 44, 54, 55, 65, 66, 76);
+        CHECKS.due("all along a chain", chain.hindered(), 255);
+        FenceHandshakes back = Setups.wishing(77, 67, 66, 56, 55, 45, 44, 34, 33, 23, 22, 12, 11, 01);
+        CHECKS.due("all along a chain back", back.hindered(), 255);
     }
 
     private static void onlyThoseWithWishes() {
@@ -411,10 +419,29 @@ public final class QueriesEdgesTest {
         CHECKS.due("nobody, as there is one for each", Setups.wishing(00, 01, 10, 12, 20).hindered(), 0);
     }
 
+    private static void inSomeOfAll() {
+        int[] three = {0, 5, 7};
+        for (int set = 0; set < 512; set++) {
+            int[] pairs = Matchings.setOf(set, three, three);
+            CHECKS.due("set " + set, Setups.wishing(pairs).hindered(), new Matchings(pairs).leftOutInSome());
+        }
+        for (int set = 0; set < 1000; set++) {
+            int[] pairs = Matchings.scatteredSet(set);
+            CHECKS.due("scattered set " + set, Setups.wishing(pairs).hindered(), new Matchings(pairs).leftOutInSome());
+        }
+    }
+
     private static void count(String place) {
         CHECKS.sentence(place, "what: 0 for open wishes, 1 for", () -> {
             int[] told = {4, 2, 3, 6, 1, 2, 2, 1, 5, 10};
             CHECKS.range("count", 0, 9, -2, v -> Setups.eventful().count(v), v -> told[v]);
+        });
+        CHECKS.sentence(place, "BAD_VALUE if what is out of range", () -> {
+            int[] wrong = {-1, 10, 11, 256, -256, Integer.MIN_VALUE, Integer.MAX_VALUE};
+            for (int what : wrong) {
+                CHECKS.due("count " + what, Setups.eventful().count(what), -2);
+                CHECKS.due("count " + what + " of a new object", new FenceHandshakes().count(what), -2);
+            }
         });
         CHECKS.sentence(place, "0 for open wishes", () -> dueCount(0, 0, 64, Setups::wishingAll));
         CHECKS.sentence(place, "1 for possible open wishes", () -> dueCount(1, 0, 64, Setups::wishingAll));
@@ -442,6 +469,8 @@ public final class QueriesEdgesTest {
             dueCount(7, 0, 8, Setups::wishingAll);
             dueCount(7, 0, 8, () -> Setups.wishing(70, 71, 72, 73, 74, 75, 76, 77));
             dueCount(7, 0, 8, () -> Setups.wishing(07, 17, 27, 37, 47, 57, 67, 77));
+            dueCount(7, 0, 8, () -> Setups.wishing(00, 01, 02, 03, 04, 05, 06, 07));
+            dueCount(7, 0, 8, () -> Setups.wishing(00, 10, 20, 30, 40, 50, 60, 70));
             dueCount(7, 0, 1, () -> Setups.wishing(00, 11, 77));
         });
         CHECKS.sentence(place, "8 for states in the history", () -> {

@@ -250,6 +250,16 @@ public final class TextEdgesTest {
         Setups.type(x, "7-7");
         CHECKS.due("only what comes then", x.read(), 1);
         CHECKS.due("the pair", x.pair(7, 7, 0), 1);
+        FenceHandshakes looked = Setups.withText("0-0,1-1,2-2,");
+        CHECKS.due("a fault behind three groups", looked.read(), -112);
+        looked.clearText();
+        Setups.type(looked, "3-3");
+        CHECKS.due("nothing is left of the groups", looked.read(), 1);
+        FenceHandshakes asked = Setups.withText(Setups.FULL_LIST);
+        CHECKS.due("no fault", asked.fault(), -5);
+        asked.clearText();
+        Setups.type(asked, "3-3");
+        CHECKS.due("nothing is left of the list", asked.read(), 1);
     }
 
     private static void lengthsFrom0To80() {
