@@ -473,6 +473,17 @@ public final class QueriesEdgesTest {
             dueCount(7, 0, 8, () -> Setups.wishing(00, 10, 20, 30, 40, 50, 60, 70));
             dueCount(7, 0, 1, () -> Setups.wishing(00, 11, 77));
         });
+        CHECKS.sentence(place, "7 for the greatest number of possible open wishes of a person", () -> {
+            FenceHandshakes x = Setups.quarrelling(50);
+            for (int link = 0; link < 16; link++) {
+                x.link(link / 4, link % 4, true);
+            }
+            CHECKS.due("feuds are no wishes", x.count(7), 0);
+            x.wish(7, 7);
+            CHECKS.due("nor do they leave any possible", x.count(7), 0);
+            x.reconcile(7, 7);
+            CHECKS.due("but for the one that is ended", x.count(7), 1);
+        });
         CHECKS.sentence(place, "8 for states in the history", () -> {
             for (int rounds = 0; rounds <= 12; rounds++) {
                 CHECKS.due("states after " + rounds, afterRounds(rounds).count(8), Math.min(rounds, 5));
